@@ -247,6 +247,8 @@ public final class NetTest {
         DUE.is("31: not two between", Due.hummed(x, 3, 0, 1, 1), 0);
         DUE.is("31: one alone", Due.hummed(x, 9, 0, 3), 1);
         DUE.is("31: one alone", Due.hummed(x, 9, 1, 3), 8);
+        DUE.is("31: fact 0 between", Due.hummed(x, 3, 0, 2, 1), 1);
+        DUE.is("31: fact 0 between", Due.hummed(x, 3, 1, 2, 1), 7);
         DUE.is("31: one not told", Due.hummed(x, 3, 0, 0, 2, 4), -2);
         DUE.is("31: the tape is empty then", x.count(8), 0);
         DUE.is("31: six", Due.hummed(x, 1, 0, 0, 2, 0, 2, 0, 2), 8);

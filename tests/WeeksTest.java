@@ -518,6 +518,9 @@ public final class WeeksTest {
         DUE.is("17: together", x.pupilIs(1, 4), 65);
         x.knows(1, 3, 31);
         DUE.is("17: the strongest", x.pupilIs(1, 3), 3);
+        x.knows(1, 0, 2);
+        DUE.is("17: fact 0 too", x.pupilIs(1, 2), 15);
+        x.knows(1, 0, 0);
         DUE.is("17: what 5", x.pupilIs(1, 5), -1);
         DUE.is("17: what -1", x.pupilIs(1, -1), -1);
         DUE.is("17: not told", x.pupilIs(0, 0), -1);
