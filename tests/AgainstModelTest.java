@@ -2,8 +2,9 @@ import java.util.Random;
 
 /** Long runs of chance calls (with fixed seeds), each answer held against the model's. */
 public final class AgainstModelTest {
-    private static final int RUNS = 1200;
-    private static final int CALLS = 512;
+    private static final int RUNS = 2400;
+    /** An object is used for 512 calls at most: one call() makes some 17 at most, and the end 57. */
+    private static final int CALLS = 512 - 57 - 20;
     private final Due due = new Due("AgainstModelTest");
     private Random chance;
     private ForgetSchool x;
@@ -22,8 +23,9 @@ public final class AgainstModelTest {
         chance = new Random(seed);
         x = new ForgetSchool();
         m = new Model();
+        int before = due.asked();
         begin(seed % 4);
-        for (int c = 0; c < CALLS - 60; c++) {
+        for (int c = 0; due.asked() - before < CALLS; c++) {
             log = "run " + seed + " call " + c + " ";
             call();
         }
