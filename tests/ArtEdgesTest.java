@@ -8,6 +8,7 @@ public final class ArtEdgesTest {
     public static void main(String[] args) {
         everyByte();
         length();
+        firstBytesAlone();
         repeated();
         brackets();
         fortyEight();
@@ -69,6 +70,28 @@ public final class ArtEdgesTest {
             DUE.is("7: the first n bytes", y.art(0, n), n);
             DUE.is("7: empty then", y.count(8), 0);
         }
+    }
+
+    /** "ART k by the first n bytes of the tape": what lies behind these is not looked at. */
+    private static void firstBytesAlone() {
+        String text = "a+b2c.3+dA(ef)2(g(h)4(i))lI";
+        int[] due = {1, -1002, 2, -1004, 4, 5, -1007, -1008, 8, 9, -1011, -1012, -1013, 11, -1015, -1016, -1017, -1018,
+            -1019, -1020, -1021, -1022, -1023, -1024, 23, 24, 25};
+        for (int n = 1; n <= text.length(); n++) {
+            ForgetSchool x = new ForgetSchool();
+            Due.feed(x, text);
+            DUE.is("7: " + text.substring(0, n) + " of more", x.art(0, n), due[n - 1]);
+            DUE.is("7: empty then", x.count(8), 0);
+        }
+        ForgetSchool x = new ForgetSchool();
+        Due.feed(x, "a".repeat(60));
+        DUE.is("7: 48 of more", x.art(0, 48), 48);
+        Due.feed(x, "a".repeat(60));
+        DUE.is("7: 49 of more", x.art(0, 49), -6048);
+        Due.feed(x, "(((a)))");
+        DUE.is("7: two open", x.art(0, 2), -1002);
+        Due.feed(x, "(((a)))");
+        DUE.is("7: a third", x.art(0, 3), -5002);
     }
 
     /** "ahead of each perhaps a digit 2 to 9 (so many times); (STEPS) likewise (one at least)". */

@@ -11,6 +11,7 @@ public final class LawEdgesTest {
     public static void main(String[] args) {
         everyByte();
         length();
+        firstBytesAlone();
         clauses();
         digits();
         depthOfE();
@@ -104,6 +105,35 @@ public final class LawEdgesTest {
         }
         due("w1(1=1) ;w1(1=1)", -1007);
         due("w1(1=1); w1(1=1)", -1008);
+    }
+
+    /** "THE LAW by the first n bytes of the tape": what lies behind these is not looked at. */
+    private static void firstBytesAlone() {
+        String text = "w12+[34%f]*5(!(v<67|8=9)&n>10);s345(1=1);x([12]=34)";
+        for (int n = 1; n <= text.length(); n++) {
+            int clauses = n == text.indexOf(";s") ? 1 : n == text.indexOf(";x") ? 2 : n == text.length() ? 3 : 0;
+            ForgetSchool x = new ForgetSchool();
+            Due.feed(x, text);
+            DUE.is("8: " + text.substring(0, n) + " of more", x.law(n), clauses > 0 ? clauses : -1000 - n);
+            DUE.is("8: empty then", x.count(8), 0);
+        }
+        ForgetSchool x = new ForgetSchool();
+        Due.feed(x, "w12345678901234567890");
+        DUE.is("8: five digits of more", x.law(6), -1006);
+        Due.feed(x, "w12345678901234567890");
+        DUE.is("8: a sixth digit", x.law(7), -2006);
+        Due.feed(x, "x(1=1)z".repeat(3));
+        DUE.is("8: whole", x.law(6), 1);
+        Due.feed(x, "x((((((((1=1");
+        DUE.is("8: six open", x.law(7), -1007);
+        Due.feed(x, "x((((((((1=1");
+        DUE.is("8: a seventh", x.law(8), -5007);
+        Due.feed(x, "x(1=1);".repeat(17));
+        DUE.is("8: sixteen of more", x.law(111), 16);
+        Due.feed(x, "x(1=1);".repeat(17));
+        DUE.is("8: a ; behind sixteen", x.law(112), -1112);
+        Due.feed(x, "x(1=1);".repeat(17));
+        DUE.is("8: a seventeenth", x.law(113), -4112);
     }
 
     /** "CLAUSES (16 at most)", "4 a 17th CLAUSE, at its letter (if that can stand there)". */

@@ -70,6 +70,21 @@ public final class SearchEdgesTest {
             DUE.is("20: the least row of " + strength, x.order(7, 36, 1, 0, 0), 2);
             DUE.is("20: the least row of " + strength + ", its end", x.order(7, 36, 1, 0, fewer - 1), 2);
         }
+        for (int i = 0; i < 12; i++) {
+            ForgetSchool x = twelve();
+            Due.art(x, 0, ".");
+            Due.art(x, 1, "+" + (char) ('a' + (i + 1) % 12) + (char) ('a' + i));
+            Due.law(x, "s99(1=1);w31(1=1)");
+            x.pupil(0, 1, 1);
+            x.knows(0, i, 5);
+            DUE.is("20: FACT " + i + " by 5", x.order(0, 1, 1 << i, 0, 20), 5);
+            DUE.is("20: FACT " + i + " by 1", x.order(0, 3, 1 << i, 0, 20), 1);
+            x.knows(0, i, 94);
+            DUE.is("20: FACT " + i + " by 4", x.order(0, 3, 1 << i, 0, 20), 4);
+            for (int place = 0; place < 4; place++) {
+                DUE.is("20: FACT " + i + ", place " + place, x.order(0, 3, 1 << i, 0, place), place == 0 ? 0 : 1);
+            }
+        }
     }
 
     /**
