@@ -701,6 +701,8 @@ public final class WeekEdgesTest {
         x.exam(77, 3);
         x.skill(3, 3, 33);
         x.reminds(2, 3, 44);
+        x.reminds(1, 2, 45);
+        x.reminds(1, 3, 46);
         Due.art(x, 3, "ab");
         Due.law(x, "x(1=1);x(2=2)");
         Due.feed(x, "tape");
@@ -710,7 +712,7 @@ public final class WeekEdgesTest {
         DUE.is("36: ARTS of CLASSES are not KEPT", x.count(34), 3);
         DUE.is("36: THE EXAM is not KEPT", x.count(10) + x.count(11), 80);
         DUE.is("36: SKILL is not KEPT", x.taught(8, 8, 20), 33);
-        DUE.is("36: REMINDING is not KEPT", x.parted(14, 0) + x.parted(12, 0), 0);
+        DUE.is("36: REMINDING is not KEPT", x.parted(14, 0), 44);
         DUE.is("36: ARTS are not KEPT", x.count(23), 2);
         DUE.is("36: THE LAW is not KEPT", x.count(7), 2);
         DUE.is("36: the tape is not KEPT", x.count(8), 20);
@@ -766,8 +768,7 @@ public final class WeekEdgesTest {
         DUE.is("6: empty then, and fed again", x.feed(0, 0, 0, 0, 0), 20);
         x.check(0, 0);
         x.feed(0x80ff7f00, 0, 0, 0, 0);
-        DUE.is("6: bytes are 0 to 255", Due.check(new ForgetSchool(), 0), -2);
-        DUE.is("37: byte 128", x.check(0, 1), 0);
+        DUE.is("37: byte 128 is no STRENGTH", x.check(0, 1), 0);
         // a text that goes over several feeds
         ForgetSchool y = new ForgetSchool();
         String text = "w1(1=1);s2(2=2);r3(3=3);h4(4=4);x(5=5)";
