@@ -31,6 +31,8 @@ public final class LawEdgesTest {
         asMuchAsMatters();
         longOnes();
         notChangedByAFault();
+        oneBehindTheOther();
+        fewerClausesBehindMore();
         DUE.end();
     }
 
@@ -582,5 +584,50 @@ public final class LawEdgesTest {
         DUE.is("8: a fault again", Due.law(x, "w50(1=1"), -1007);
         x.does(0, 0);
         DUE.is("8: the one before holds", x.strength(0, 0), 91);
+    }
+
+    /** "in place of the one before": long laws of one school, with long faults between, leave nothing behind. */
+    private static void oneBehindTheOther() {
+        ForgetSchool x = Due.school(0);
+        x.pupil(0, 1, 1);
+        Due.art(x, 0, "a");
+        Due.law(x, "w77(1=1)");
+        x.copy();
+        for (int n = 1; n <= 16; n++) {
+            int before = n == 1 ? 77 : n - 1;
+            DUE.is("8: fault " + n, Due.law(x, "x(" + "0=0&".repeat(45) + "0=0"), -1185);
+            takes(x, "8: the one before stays " + n, before);
+            DUE.is("8: law " + n, Due.law(x, "w" + "0+".repeat(50) + n + "(" + "1=2|".repeat(24) + "1=1)"), 1);
+            takes(x, "8: in place of it " + n, n);
+        }
+        x.grade(1, 0);
+        x.knows(0, 0, 77);
+        DUE.is("13: by the law that was COPIED", x.other(1, 10), 0);
+        DUE.is("12: by THE LAW", x.tried(1, 10), 1);
+        DUE.is("14: COPIED again", x.copy(), 1);
+        DUE.is("8: the last", Due.law(x, "w5(1=1)"), 1);
+        x.knows(0, 0, 16);
+        DUE.is("13: by the law that was COPIED again", x.other(1, 10), 0);
+        DUE.is("12: by THE LAW again", x.tried(1, 10), 1);
+    }
+
+    private static void takes(ForgetSchool x, String call, int due) {
+        x.knows(0, 0, 99);
+        x.does(0, 0);
+        DUE.is(call, 99 - x.strength(0, 0), due);
+    }
+
+    /** A clause that THE LAW had two laws ago, where the one now has fewer, is asked no more. */
+    private static void fewerClausesBehindMore() {
+        ForgetSchool x = Due.school(0);
+        Due.pupil(x, 0, 1, 1, 99);
+        Due.art(x, 0, "a.");
+        String few = "s1(1=1&1=1&1=1&1=1)";
+        for (String more : new String[] {"s1(1=1);w1+1(1=1)", "x(1=1);x(1=1)", "w1(1=1);w1+1(1=1)", "x(1=1);w1+1(1=1)"}) {
+            DUE.is("8: " + more, Due.law(x, more), 2);
+            DUE.is("8: between", Due.law(x, "r1(1=1)"), 1);
+            DUE.is("8: " + few, Due.law(x, few), 1);
+            takes(x, "8: by sleep alone, behind " + more, 1);
+        }
     }
 }
